@@ -2,6 +2,11 @@
 final class Checks {
     static final int[] FAR_OFF = {Integer.MIN_VALUE, Integer.MIN_VALUE + 1, -9, -1, Integer.MAX_VALUE};
 
+    // What set() knows: SHARE, LIMIT, FEW, whether TORN ones are asked for, PATIENCE, LATE.
+    static final int[] FIRST = {3, 1000, 2, 1, 5, 3};
+    static final int[] LEAST = {1, 1, 0, 0, 1, 0};
+    static final int[] GREATEST = {9, 8000, 9, 1, 20, 20};
+
     private int wrong = 0;
 
     void due(String call, long got, long want) {

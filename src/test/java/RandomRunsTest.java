@@ -86,11 +86,9 @@ public final class RandomRunsTest {
     }
 
     private void set(String where) {
-        int[] least = {1, 1, 0, 0, 1, 0};
-        int[] greatest = {9, 8000, 9, 1, 20, 20};
         int what = any(0, 5);
-        int v = in(what, 0, 5) ? any(least[what], greatest[what]) : 1;
-        boolean good = in(what, 0, 5) && in(v, least[what], greatest[what]);
+        int v = in(what, 0, 5) ? any(Checks.LEAST[what], Checks.GREATEST[what]) : 1;
+        boolean good = in(what, 0, 5) && in(v, Checks.LEAST[what], Checks.GREATEST[what]);
         c.due(where + "set " + what + " " + v, x.set(what, v), good ? model.set(what, v) : CallKeepers.BAD);
     }
 

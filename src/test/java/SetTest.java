@@ -1,8 +1,6 @@
 /** Promise 4: set. */
 public final class SetTest {
-    private static final int[] FIRST = {3, 1000, 2, 1, 5, 3};
-    private static final int[] LEAST = {1, 1, 0, 0, 1, 0};
-    private static final int[] GREATEST = {9, 8000, 9, 1, 20, 20};
+    private static final int[] FIRST = Checks.FIRST, LEAST = Checks.LEAST, GREATEST = Checks.GREATEST;
 
     public static void main(String[] args) {
         Checks c = new Checks();
