@@ -7,6 +7,7 @@ public final class KeeperTest {
         upAndDown(c);
         lost(c);
         moved(c);
+        movedThreeTimes(c);
         allDown(c);
         wrongInputs(c);
         c.end();
@@ -104,6 +105,24 @@ public final class KeeperTest {
         x.keeper(2, false);
         c.due("lost with its new keeper", x.count(3), 2);
         c.due("moved ever", x.count(4), 2);
+    }
+
+    /** Each MOVE counts, as often as one and the same CALL makes one. */
+    private static void movedThreeTimes(Checks c) {
+        CallKeepers x = new CallKeepers();
+        for (int keeper = 1; keeper <= 3; keeper++) {
+            x.keeper(keeper, false);
+        }
+        c.lone(x, 0, 3, 2, 40);
+        c.due("only one is UP", x.waits(0, 0), 0);
+        int[] comes = {3, 1, 2};
+        for (int moves = 1; moves <= 3; moves++) {
+            x.keeper(comes[moves - 1], true);
+            c.due("moved to", x.waits(0, 0), comes[moves - 1]);
+            c.due("moved ever", x.count(4), moves);
+        }
+        c.due("waiting", x.count(1), 1);
+        c.due("lost", x.count(3), 0);
     }
 
     private static void allDown(Checks c) {
